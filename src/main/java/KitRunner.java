@@ -483,7 +483,7 @@ public final class KitRunner {
             return held;
         }
 
-        /** Whether the case has a pair that was not there; one without such a pair leaves the book as it is. */
+        /** Whether the case has a new pair; a case without one leaves the book as it is. */
         boolean note(int entry, int placeA, int placeB) {
             int before = held;
             mark(entryWithA, entry, placeA);

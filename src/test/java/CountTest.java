@@ -4,6 +4,7 @@ public final class CountTest {
         Checks checks = new Checks();
         isZeroBeforeARun(checks);
         countsTheLatestRun(checks);
+        tellsOneFailure(checks);
         countsWhatIsThere(checks);
         countsEnabledCasesAlone(checks);
         refusesOtherNumbers(checks);
@@ -44,6 +45,16 @@ public final class CountTest {
         kit.enable(0);
         kit.run(3, false);
         row(checks, kit, 0, 0, 0, 0, 0, 5, 0, 4, 0, 0);
+    }
+
+    private static void tellsOneFailure(Checks checks) {
+        KitRunner kit = new KitRunner();
+        kit.fault(13, 0, 1);
+        kit.enable(1 << 13);
+        kit.run(1, false);
+        checks.due("failures", kit.count(1), 1);
+        checks.due("status", kit.count(6), 1);
+        checks.dueText("report", Checks.report(kit), "cast 9 1\nFAIL\n");
     }
 
     private static void countsWhatIsThere(Checks checks) {
