@@ -5,27 +5,37 @@ final class Checks {
 
     private int made = 0;
     private int wrong = 0;
+    private int sentences = 0;
+    private int madeBeforeSentence = 0;
+    private String sentence = "";
+
+    /** What is checked from here on is this sentence of the document. */
+    void sentence(String words) {
+        endSentence();
+        sentences++;
+        sentence = words;
+        madeBeforeSentence = made;
+    }
 
     void due(String call, long got, long want) {
         made++;
         if (got != want) {
-            wrong++;
-            System.out.println(call + " answered " + got + ", due is " + want);
+            tellWrong(call, String.valueOf(got), String.valueOf(want));
         }
     }
 
     void dueText(String call, String got, String want) {
         made++;
         if (!got.equals(want)) {
-            wrong++;
-            System.out.println(call + " answered [" + got + "], due is [" + want + "]");
+            tellWrong(call, "[" + got + "]", "[" + want + "]");
         }
     }
 
     /** The report, read letter by letter up to the length that count tells. */
     static String report(KitRunner kit) {
         StringBuilder text = new StringBuilder();
-        for (int i = 0; i < kit.count(5); i++) {
+        int length = kit.count(5);
+        for (int i = 0; i < length; i++) {
             text.append((char) kit.letter(i));
         }
         return text.toString();
@@ -52,9 +62,24 @@ final class Checks {
     }
 
     void end() {
-        System.out.println(made + " answers, " + wrong + " not as due");
+        endSentence();
+        System.out.println((sentences == 0 ? "" : sentences + " sentences, ") + made + " answers, "
+            + wrong + " not as due");
         if (wrong != 0 || made == 0) {
             System.exit(1);
+        }
+    }
+
+    private void tellWrong(String call, String got, String want) {
+        wrong++;
+        System.out.println((sentence.isEmpty() ? "" : "\"" + sentence + "\" ") + call + " answered " + got
+            + ", due is " + want);
+    }
+
+    // A sentence that nothing was held against would pass unseen.
+    private void endSentence() {
+        if (sentences > 0 && made == madeBeforeSentence) {
+            tellWrong("the test", "nothing", "something");
         }
     }
 }

@@ -36,10 +36,10 @@ public final class ModelTest {
     }
 
     private static void everyOutcome(Checks checks) {
-        KitRunner kit = new KitRunner();
         KitModel model = new KitModel();
         for (int entry = -1; entry <= 16; entry++) {
             for (int a : NUMBERS) {
+                KitRunner kit = new KitRunner();
                 for (int b : NUMBERS) {
                     checks.due("outcome(" + entry + ", " + a + ", " + b + ")",
                         kit.outcome(entry, a, b, false), model.outcome(entry, a, b, false));

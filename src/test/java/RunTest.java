@@ -21,6 +21,7 @@ public final class RunTest {
             checks.due("runs", kit.count(7), 0);
             checks.due("report", kit.count(5), 0);
         }
+        kit.enable(3);
         kit.fault(0, 0, 0);
         kit.run(2, false);
         String before = Checks.state(kit);

@@ -155,6 +155,7 @@ public final class ShrinkTest {
     private static void changesNothing(Checks checks) {
         KitRunner kit = new KitRunner();
         kit.fault(2, 4, 100);
+        kit.enable(4);
         kit.run(3, false);
         String before = Checks.state(kit);
         for (int i = 0; i < 12; i++) {
