@@ -5,7 +5,7 @@ import java.lang.reflect.Modifier;
 import java.util.Set;
 import java.util.TreeSet;
 
-/** The document's public face, and the example of the README. */
+/** The document's public face. */
 public final class FaceTest {
     private static final Set<String> FACE = new TreeSet<>(Set.of(
         "public static final int KitRunner.DONE",
@@ -35,7 +35,6 @@ public final class FaceTest {
             checks.due(inside + " is static", Modifier.isStatic(inside.getModifiers()) ? 1 : 0, 1);
             checks.due(inside + " is not public", Modifier.isPublic(inside.getModifiers()) ? 1 : 0, 0);
         }
-        holdsTheReadme(checks);
         checks.end();
     }
 
@@ -57,17 +56,5 @@ public final class FaceTest {
             }
         }
         return members;
-    }
-
-    private static void holdsTheReadme(Checks checks) {
-        KitRunner kit = new KitRunner();
-        kit.fault(3, 2, 5);
-        kit.exclude(4, 0);
-        kit.enable(1 << 3 | 1 << 4);
-        checks.due("failures", kit.run(1, false), 3);
-        checks.due("entry", kit.failure(0, 0), 3);
-        checks.due("given", kit.failure(0, 4), 5);
-        checks.due("steps", kit.shrink(2, 2), 1);
-        checks.dueText("report", Checks.report(kit), "div 9 3\nrem 4 0\nFAIL\n");
     }
 }

@@ -1,3 +1,4 @@
+import java.util.Arrays;
 import java.util.Random;
 
 /** Long runs of calls, each answer held against the model's; the seeds are written out, so all is the same each time. */
@@ -32,6 +33,7 @@ public final class ModelTest {
             }
         }
         everyOutcome(checks);
+        everyFault(checks);
         checks.end();
     }
 
@@ -44,6 +46,42 @@ public final class ModelTest {
                     checks.due("outcome(" + entry + ", " + a + ", " + b + ")",
                         kit.outcome(entry, a, b, false), model.outcome(entry, a, b, false));
                 }
+            }
+        }
+    }
+
+    /** Each fault by itself, in each kind of run of its entry point. */
+    private static void everyFault(Checks checks) {
+        for (int entry = 0; entry <= 15; entry++) {
+            for (int sort = 0; sort <= 4; sort++) {
+                for (int n : NUMBERS) {
+                    for (int bound = 1; bound <= 3; bound++) {
+                        runWithFault(checks, new int[] {entry, sort, n, bound}, false);
+                        runWithFault(checks, new int[] {entry, sort, n, bound}, true);
+                    }
+                }
+            }
+        }
+    }
+
+    private static void runWithFault(Checks checks, int[] row, boolean pairs) {
+        String where = "fault and bound " + Arrays.toString(row) + (pairs ? " by pairs: " : ": ");
+        KitRunner kit = new KitRunner();
+        KitModel model = new KitModel();
+        checks.due(where + "enable", kit.enable(1 << row[0]), model.enable(1 << row[0]));
+        checks.due(where + "fault", kit.fault(row[0], row[1], row[2]), model.fault(row[0], row[1], row[2]));
+        checks.due(where + "run", kit.run(row[3], pairs), model.run(row[3], pairs));
+        checks.due(where + "ledger", kit.ledger(row[0]), model.ledger(row[0]));
+        for (int what = 0; what <= 9; what++) {
+            checks.due(where + "count", kit.count(what), model.count(what));
+        }
+        for (int i = 0; i < model.count(5); i++) {
+            checks.due(where + "letter", kit.letter(i), model.letter(i));
+        }
+        for (int i = 0; i <= 12; i++) {
+            for (int what = 0; what <= 4; what++) {
+                checks.due(where + "failure", kit.failure(i, what), model.failure(i, what));
+                checks.due(where + "shrink", kit.shrink(i, what), model.shrink(i, what));
             }
         }
     }
